@@ -1664,8 +1664,7 @@ public final class PostSieve {
                 return false;
             }
             if (star >= wantedCount) {
-                forget();
-                return text.length == wantedCount;
+                return matchesPlainly(text);
             }
             fitBehind(text, star + 1);
             int end = star;
@@ -1677,6 +1676,15 @@ public final class PostSieve {
             }
             captured.length = 0;
             captured.addRow(text, star, end - star > MOST_CAPTURED ? star + MOST_CAPTURED : end);
+            return true;
+        }
+
+        /** A pattern without a '*', of which all signs fit, matches if the text has no more of them. */
+        private boolean matchesPlainly(Row text) {
+            if (text.length != wantedCount) {
+                return false;
+            }
+            forget();
             return true;
         }
 
