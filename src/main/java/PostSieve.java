@@ -261,7 +261,10 @@ public final class PostSieve {
     }
 
     public boolean isSame(int message) throws IndexOutOfBoundsException {
-        return copyist.keeps(needMessage(message));
+        Message asked = needMessage(message);
+        copyist.write(asked);
+        reader.read(copyist.copy);
+        return copyist.hasSameHead(asked) && copyist.hasSameParts(asked);
     }
 
     public int items(int person, int box) throws IndexOutOfBoundsException {
@@ -604,16 +607,18 @@ public final class PostSieve {
     }
 
     private static int lowered(int sign) {
-        return isCapital(sign) ? sign + 32 : sign;
+        return sign >= 'A' && sign <= 'Z' ? sign + 32 : sign;
     }
 
     /** Answers the value of a digit of base 16, or -1. */
     private static int hexOf(int sign) {
-        if (isDigit(sign)) {
+        if (sign >= '0' && sign <= '9') {
             return sign - '0';
         }
-        int small = lowered(sign);
-        return small >= 'a' && small <= 'f' ? small - 'a' + 10 : -1;
+        if (sign >= 'a' && sign <= 'f') {
+            return sign - 'a' + 10;
+        }
+        return sign >= 'A' && sign <= 'F' ? sign - 'A' + 10 : -1;
     }
 
     /** A row of signs that grows; outside it lies NONE, so that a look ahead needs no test of its own. */
@@ -632,18 +637,12 @@ public final class PostSieve {
 
         private void add(int sign) {
             if (length >= signs.length) {
-                widen(2 * length + 16);
+                char[] wider = new char[2 * signs.length + 16];
+                System.arraycopy(signs, 0, wider, 0, signs.length);
+                signs = wider;
             }
             signs[length] = (char) (sign & 255);
             length++;
-        }
-
-        private void widen(int capacity) {
-            if (capacity > signs.length) {
-                char[] wider = new char[capacity];
-                System.arraycopy(signs, 0, wider, 0, length);
-                signs = wider;
-            }
         }
 
         private void addFour(int number) {
@@ -677,7 +676,9 @@ public final class PostSieve {
 
         private void take(Row other) {
             length = 0;
-            widen(other.length);
+            if (signs.length < other.length) {
+                signs = new char[other.length];
+            }
             addRow(other, 0, other.length);
         }
 
@@ -719,14 +720,6 @@ public final class PostSieve {
                 }
             }
             return false;
-        }
-
-        private int lineEnd(int from, int to) {
-            int end = from;
-            while (end < to && at(end) != 10) {
-                end++;
-            }
-            return end;
         }
 
         private int behindBlanks(int from, int to) {
@@ -807,11 +800,12 @@ public final class PostSieve {
 
         /** Answers where the first empty line stands, or the end. */
         private static int headEnd(Row data, int from, int to) {
-            int line = from;
-            while (line < to && data.at(line) != 10) {
-                line = behindHead(data.lineEnd(line, to), to);
+            for (int place = from; place < to; place++) {
+                if (data.at(place) == 10 && (place == from || data.at(place - 1) == 10)) {
+                    return place;
+                }
             }
-            return line;
+            return to;
         }
 
         private static int behindHead(int headTo, int to) {
@@ -846,8 +840,10 @@ public final class PostSieve {
             Row bound = bounds[depth];
             int begin = -1;
             int line = from;
-            while (line < to) {
-                int end = message.data.lineEnd(line, to);
+            for (int end = from; end <= to; end++) {
+                if (end < to && message.data.at(end) != 10) {
+                    continue;
+                }
                 char kind = boundKind(message.data, line, end, bound);
                 if (kind != ' ' && begin >= 0) {
                     // The byte 10 ahead of the line is left out, but an empty part has none of its own.
@@ -856,12 +852,9 @@ public final class PostSieve {
                 if (kind == 'c') {
                     return;
                 }
-                line = behindHead(end, to);
+                line = end + 1;
                 if (kind == 'o') {
-                    begin = line;
-                }
-                if (end >= to) {
-                    break;
+                    begin = behindHead(end, to);
                 }
             }
             if (begin >= 0) {
@@ -886,11 +879,21 @@ public final class PostSieve {
             if (depth < 1 || depth > MOST_DEPTH || !readField(data, from, headTo, "type")) {
                 return TEXT;
             }
-            if (value.hasText("multi", 0)) {
-                readBound(bounds[depth]);
-                return bounds[depth].length > 0 ? MULTI : TEXT;
+            if (!value.hasText("multi", 0)) {
+                return value.hasText("wrap", 0) ? WRAP : TEXT;
             }
-            return value.hasText("wrap", 0) ? WRAP : TEXT;
+            Row bound = bounds[depth];
+            bound.length = 0;
+            wanted.length = 0;
+            wanted.addText("b");
+            boolean isWhole = addParameter(bound);
+            for (int piece = 0; !isWhole && piece < MOST_BYTES; piece++) {
+                wanted.length = 0;
+                wanted.addText("b*");
+                wanted.addNumber(piece);
+                isWhole = !addParameter(bound);
+            }
+            return bound.length > 0 ? MULTI : TEXT;
         }
 
         private char readCoding(Row data, int from, int headTo) {
@@ -900,49 +903,32 @@ public final class PostSieve {
             return value.isText("q") ? 'q' : value.isText("b") ? 'b' : ' ';
         }
 
-        private void readBound(Row bound) {
-            bound.length = 0;
-            wanted.length = 0;
-            wanted.addText("b");
-            boolean isThere = addParameter(bound);
-            for (int piece = 0; !isThere && piece < MOST_BYTES; piece++) {
-                wanted.length = 0;
-                wanted.addText("b*");
-                wanted.addNumber(piece);
-                isThere = !addParameter(bound);
-            }
-        }
-
         /** Adds the value of the parameter with the wanted name, and answers whether there is one. */
         private boolean addParameter(Row row) {
-            int mark = value.placeOf(';', 0, value.length);
-            while (mark >= 0 && mark < value.length) {
+            for (int mark = 0; mark < value.length; mark++) {
+                if (value.at(mark) != ';') {
+                    continue;
+                }
                 int next = value.placeOf(';', mark + 1, value.length);
                 int to = next < 0 ? value.length : next;
                 int equals = value.placeOf('=', mark + 1, to);
-                if (equals >= 0 && isWanted(mark + 1, equals)) {
+                int name = value.behindBlanks(mark + 1, equals);
+                int nameTo = value.aheadOfBlanks(name, equals);
+                if (equals >= 0 && nameTo - name == wanted.length && value.hasRow(wanted, name)) {
                     int begin = value.behindBlanks(equals + 1, to);
                     row.addRow(value, begin, value.aheadOfBlanks(begin, to));
                     return true;
                 }
-                mark = to;
             }
             return false;
-        }
-
-        private boolean isWanted(int from, int to) {
-            int begin = value.behindBlanks(from, to);
-            int end = value.aheadOfBlanks(begin, to);
-            return end - begin == wanted.length && value.hasRow(wanted, begin);
         }
 
         /** Puts the value of the first field of a name into the row value, if there is one. */
         private boolean readField(Row data, int from, int headTo, String name) {
             int line = from;
-            while (line < headTo) {
-                int end = data.lineEnd(line, headTo);
-                while (end + 1 < headTo && isBlank(data.at(end + 1))) {
-                    end = data.lineEnd(end + 1, headTo);
+            for (int end = from; end <= headTo; end++) {
+                if (!isLineEnd(data, end, headTo)) {
+                    continue;
                 }
                 int colon = data.placeOf(':', line, end);
                 if (colon >= 0 && isNamed(data, line, colon, name)) {
@@ -953,6 +939,11 @@ public final class PostSieve {
             }
             value.length = 0;
             return false;
+        }
+
+        private static boolean isLineEnd(Row data, int place, int headTo) {
+            boolean goesOn = place + 1 < headTo && isBlank(data.at(place + 1));
+            return place == headTo || data.at(place) == 10 && !goesOn;
         }
 
         private static boolean isNamed(Row data, int from, int to, String name) {
@@ -977,7 +968,7 @@ public final class PostSieve {
 
         /** A byte 10 within a field is always ahead of a blank, so that it stands in a gap. */
         private static boolean isGap(int sign) {
-            return sign == 10 || isBlank(sign);
+            return sign == 10 || sign == 32 || sign == 9;
         }
 
         private void readValue(Row data, int from, int to) {
@@ -995,7 +986,9 @@ public final class PostSieve {
                     value.add(32);
                 }
             }
-            value.length = value.aheadOfBlanks(0, value.length);
+            if (value.at(value.length - 1) == 32) {
+                value.length--;
+            }
         }
 
         private void readAddresses(Message message, int headTo) {
@@ -1054,15 +1047,13 @@ public final class PostSieve {
             Row subject = message.subject;
             subject.length = 0;
             readField(message.data, 0, headTo, "subject");
-            int place = 0;
-            while (place < value.length && subject.length < MOST_SHOWN) {
+            for (int place = 0; place < value.length && subject.length < MOST_SHOWN; place++) {
                 int end = codedEnd(place);
                 if (end < 0) {
                     subject.add(value.at(place));
-                    place++;
                 } else {
                     addCoded(subject, place + 4, end - 2);
-                    place = value.at(end) == 32 && codedEnd(end + 1) >= 0 ? end + 1 : end;
+                    place = value.at(end) == 32 && codedEnd(end + 1) >= 0 ? end : end - 1;
                 }
             }
             subject.length = subject.length < MOST_SHOWN ? subject.length : MOST_SHOWN;
@@ -1118,19 +1109,17 @@ public final class PostSieve {
         }
 
         private static void turnQ(Row data, int from, int to, Row turned) {
-            int place = from;
-            while (place < to) {
+            for (int place = from; place < to; place++) {
                 int sign = data.at(place);
                 int coded = sign == '=' ? coded(data, place, to) : -1;
                 int behind = sign == '=' ? data.behindBlanks(place + 1, to) : to;
                 if (coded >= 0) {
                     turned.add(coded);
-                    place += 3;
+                    place += 2;
                 } else if (behind < to && data.at(behind) == 10) {
-                    place = behind + 1;
+                    place = behind;
                 } else {
                     turned.add(sign);
-                    place++;
                 }
             }
         }
@@ -1207,35 +1196,30 @@ public final class PostSieve {
                 to--;
             }
             int seal = before;
-            int place = from;
-            while (place < to) {
+            for (int place = from; place < to; place++) {
                 int behind = data.behindBlanks(place, to);
-                if (data.at(behind) != 10) {
-                    for (; place < behind; place++) {
-                        seal = 31 * seal + data.at(place);
-                    }
+                for (int blank = place; blank < behind && data.at(behind) != 10; blank++) {
+                    seal = 31 * seal + data.at(blank);
                 }
                 seal = 31 * seal + data.at(behind);
-                place = behind + 1;
+                place = behind;
             }
             return seal;
         }
     }
 
-    /** Writes a message anew and looks whether it is read as the same. */
+    /** Writes a message anew, and looks whether what is read then is the same. */
     private static final class Copyist {
         private final Reader reader = new Reader();
         private final Message copy = new Message();
         private final Row bound = new Row(16);
         private int boundMark;
 
-        private boolean keeps(Message message) {
+        private void write(Message message) {
             copy.data.length = 0;
             boundMark = freeMark(message.data);
             writeHead(message);
             writePart(message, 0, 1);
-            reader.read(copy);
-            return hasSameHead(message) && hasSameParts(message);
         }
 
         /** No raw text may hold a line that could be taken for one of the boundaries. */
@@ -1786,7 +1770,14 @@ public final class PostSieve {
                 }
             }
             for (present = 0; present < copyCount && present < MOST_DELIVERIES; present++) {
-                deliverCopy(message, today);
+                Person person = people[receivers[present]];
+                deliveries++;
+                answers += person.makesAnswer(message, today) ? 1 : 0;
+                begin();
+                runScript(person.script, message, 1);
+                if (!isDone || hasLoop) {
+                    keep(message, 0);
+                }
             }
         }
 
@@ -1798,12 +1789,7 @@ public final class PostSieve {
             }
         }
 
-        private void deliverCopy(Message message, int today) {
-            Person person = people[receivers[present]];
-            deliveries++;
-            if (person.makesAnswer(message, today)) {
-                answers++;
-            }
+        private void begin() {
             flags = 0;
             keptBoxes = 0;
             underWay = 0;
@@ -1812,10 +1798,6 @@ public final class PostSieve {
             hasLoop = false;
             isEnded = false;
             matcher.forget();
-            runScript(person.script, message, 1);
-            if (!isDone || hasLoop) {
-                keep(message, 0);
-            }
         }
 
         private void runScript(int number, Message message, int depth) {
@@ -1851,23 +1833,23 @@ public final class PostSieve {
                 return matcher.matches(pattern, message.list);
             }
             if (test == 'f') {
-                return matchesAddress(pattern, message.from);
+                return matcher.matches(pattern, spelled(message.from));
             }
             for (int place = 0; place < message.toCount; place++) {
-                if (matchesAddress(pattern, message.to[place])) {
+                if (matcher.matches(pattern, spelled(message.to[place]))) {
                     return true;
                 }
             }
             return false;
         }
 
-        private boolean matchesAddress(Row pattern, int address) {
+        private Row spelled(int address) {
             text.length = 0;
             if (address >= 0) {
                 text.add('a' + address / 10);
                 text.add('0' + address % 10);
             }
-            return matcher.matches(pattern, text);
+            return text;
         }
 
         private void act(char action, int number, Message message, int depth) {
@@ -2076,7 +2058,7 @@ public final class PostSieve {
             int to = subject.length;
             boolean isTaken = true;
             isAnswer[place] = false;
-            while (isTaken && from <= to) {
+            for (int step = 0; isTaken && step < MOST_SHOWN; step++) {
                 from = subject.behindBlanks(from, to);
                 to = subject.aheadOfBlanks(from, to);
                 int front = frontLength(subject, from, to);

@@ -14,7 +14,11 @@ public final class ModelTest {
     }
 
     private int near(int most) {
-        return random.nextInt(40) == 0 ? random.nextInt(most + 5) - 2 : random.nextInt(most + 1);
+        int kind = random.nextInt(200);
+        if (kind == 0) {
+            return new int[] {Integer.MIN_VALUE, Integer.MAX_VALUE, -1, random.nextInt()}[random.nextInt(4)];
+        }
+        return kind < 5 ? random.nextInt(most + 5) - 2 : random.nextInt(most + 1);
     }
 
     private char sign(String all) {
