@@ -24,6 +24,9 @@ final class Mails {
     }
 
     String message() {
+        if (random.nextInt(16) == 0) {
+            return noise();
+        }
         StringBuilder text = new StringBuilder();
         if (random.nextInt(6) > 0) {
             field(text, "from", list(ADDRESSES, 1));
@@ -51,6 +54,19 @@ final class Mails {
         part(text, 1);
         String made = text.length() > 1980 ? text.substring(0, 1980) : text.toString();
         return random.nextInt(4) == 0 ? spoilt(made) : made;
+    }
+
+    /** Words that mean something, in no order. */
+    private String noise() {
+        String[] words = {"\n", "\n", "\n", " ", "\t", "-", "--", "--ab", "--ab--", "=", ":", ";", "(", ")", "?", "?=",
+            "=?q?", "_", "=41", "a", "b", "b*0=ab", "b=ab", "b=", "0", "17", "a1", "b2", "from:", "to:", "subject:",
+            "id:", "refs:", "list:", "type:", "coding:", "multi", "wrap", "q", "type:multi;b=ab", "type:wrap",
+            "coding:q", "coding:b\n\n", "\0", "\u00ff", "re:", "\n--ab\n", "\n--ab\n\n"};
+        StringBuilder text = new StringBuilder(random.nextBoolean() ? "to:a1,b2\n" : "");
+        for (int left = random.nextInt(rarely() ? 400 : 60); left > 0; left--) {
+            text.append(oneOf(words));
+        }
+        return text.length() > 2000 ? text.substring(0, 2000) : text.toString();
     }
 
     private String long60() {
