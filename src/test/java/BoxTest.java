@@ -85,6 +85,9 @@ public final class BoxTest {
         PostSieve post = new Check().people("a1", "b2", "c3").post;
         Check.thrown("32: no other person", Check.INDEX, () -> post.grant(0, 0, 3, 8));
         Check.thrown("32: other below 0", Check.INDEX, () -> post.grant(0, 0, -1, 1));
+        Check.thrown("32: no person", Check.INDEX, () -> post.grant(3, 0, 0, 8));
+        Check.thrown("32: no person, twice", Check.INDEX, () -> post.grant(3, 0, 3, 1));
+        Check.thrown("32: no box, and both the same", Check.INDEX, () -> post.grant(0, 4, 0, 1));
         Check.thrown("32: rights below 0", Check.ARGUMENT, () -> post.grant(0, 0, 1, -1));
         Check.thrown("32: rights above 7", Check.ARGUMENT, () -> post.grant(0, 0, 1, 8));
         Check.thrown("32: both the same", Check.ARGUMENT, () -> post.grant(1, 0, 1, 3));

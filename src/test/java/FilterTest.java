@@ -65,6 +65,8 @@ public final class FilterTest {
         met("no from is nothing", "f", "to:a1\n\n");
         unmet("from is not nothing", "f", "from:b2\nto:a1\n\n");
         met("'?' in an address", "f ?2", "from:b2\nto:a1\n\n");
+        met("from a0", "f a0", "from:a0\nto:a1\n\n");
+        met("from z9", "f z9", "from:z9\nto:a1\n\n");
         met("the first to", "t a1", "to:a1,b2\n\n");
         met("the last to", "t d4", "to:a1,b2,c3,d4\n\n");
         unmet("no to", "t e5", "to:a1,b2,c3,d4,e5\n\n");
@@ -290,6 +292,12 @@ public final class FilterTest {
     }
 
     private static void loops() {
+        Check each = new Check().people("a1", "b2").scripts(2).rule(0, "a n 0").rule(1, "a k 1");
+        each.post.setScript(0, 0);
+        each.post.setScript(1, 1);
+        each.mail("to:a1,b2\n\n");
+        Check.due("12: the loop of one delivery is none of the next one", 0, each.post.items(1, 0));
+        Check.due("12: that keeps it as its rules say", 1, each.post.items(1, 1));
         Check self = delivered("a k 2", "a n 0", "a k 3");
         Check.due("12: a script that includes itself", "1010", boxes(self));
         Check.due("46: a loop", 1, self.post.counted('l'));
@@ -387,6 +395,12 @@ public final class FilterTest {
         check.mail("to:a1,b2\n\n");
         Check.due("46: each copy for itself", 3, check.post.counted('c'));
         Check.due("46: four deliveries more", 6, check.post.counted('d'));
+        Check lowest = new Check().people("a1", "a0").scripts(1).rule(0, "a r 1");
+        lowest.post.setScript(0, 0);
+        lowest.mail("to:a1\n\n");
+        Check.due("12: to the address a0", 1, lowest.post.items(1, 0));
+        lowest.mail("to:a0\n\n");
+        Check.due("8: to the address a0", 2, lowest.post.items(1, 0));
         Check none = delivered("a r 3");
         Check.due("46: to no one is no circle", 0, none.post.counted('c'));
         Check twice = new Check().people("a1", "b2").scripts(1).rule(0, "a r 1").rule(0, "a r 1");

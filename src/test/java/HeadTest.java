@@ -109,6 +109,9 @@ public final class HeadTest {
         Check.due("22: from and to", "1 12 259 - -", found("from:a1\nto:b2 z9"));
         Check.due("22: none", "- - - - -", found("x:a1"));
         Check.due("22: to alone", "- 0 - - -", found("to:a0"));
+        Check.due("22: the lowest and the greatest ones", "0 259 250 9 0", found("from:a0\nto:z9 z0 a9 a0"));
+        Check.due("22: a name with another first letter", "- - - - -", found("prom:a1\nso:b2"));
+        Check.due("22: a longer and a shorter name", "- - - - -", found("froms:a1\nt:b2"));
         Check.due("22: the first one of from", "12 - - - -", found("from:x <b2>, a1"));
         Check.due("22: at most 4", "- 1 2 3 4", found("to:a1,a2,a3,a4,a5"));
         Check.due("22: those that were there are left out", "- 1 2 3 4", found("to:a1,a2,a1,a1,a2,a3,a4"));

@@ -205,6 +205,11 @@ public final class PartsTest {
         Check.due("19: byteAt", (int) 'y', post.byteAt(0, 1, 1));
         Check.thrown("19: below 0", Check.NONE_SUCH, () -> post.byteAt(0, 1, -1));
         Check.thrown("19: behind the end", Check.NONE_SUCH, () -> post.byteAt(0, 1, 2));
+        check.mail("type:multi;b=ab\n\n--ab\n\nxy\n--ab\n\nz\n--ab--");
+        Check.thrown("19: behind the end, with a part behind", Check.NONE_SUCH, () -> post.byteAt(1, 1, 2));
+        Check.due("19: the part behind", (int) 'z', post.byteAt(1, 2, 0));
+        Check.thrown("19: behind the end of the part behind", Check.NONE_SUCH, () -> post.byteAt(1, 2, 1));
+        Check.thrown("19: ahead of the part behind", Check.NONE_SUCH, () -> post.byteAt(1, 2, -1));
     }
 
     private static void means() {

@@ -75,6 +75,9 @@ public final class PeopleTest {
     private static void answers() {
         String mail = "from:c3\nto:a1\n\n";
         Check.due("6: the first day", 1, answersTo(5, 9, mail));
+        Check.due("6: to the address a0", 1, answersTo(5, 9, "from:a0\nto:a1\n\n"));
+        Check.due("6: to the address z9", 1, answersTo(5, 9, "from:z9\nto:a1\n\n"));
+        Check.due("6: the field list ahead of the others", 0, answersTo(0, 9, "list:x\nfrom:c3\nto:a1\n\n"));
         Check.due("6: the last day", 1, answersTo(2, 5, mail));
         Check.due("6: ahead of it", 0, answersTo(6, 9, mail));
         Check.due("6: behind it", 0, answersTo(2, 4, mail));

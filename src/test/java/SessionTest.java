@@ -5,6 +5,7 @@ public final class SessionTest {
         closes();
         looks();
         setsFlags();
+        seesMany();
         removes();
         moves();
         tells();
@@ -98,6 +99,29 @@ public final class SessionTest {
         Check.thrown("38: it is gone", Check.STATE, () -> post.setFlags(0, 1, 5));
         Check.thrown("38: no flags, and gone", Check.ARGUMENT, () -> post.setFlags(0, 1, 16));
         Check.due("37: as it was", "1/0 2/3", check.seen(0));
+        Check.due("38: some", 0, post.setFlags(0, 0, 8));
+        Check.due("38: none", 8, post.setFlags(0, 0, 0));
+        Check.due("37: none", "1/0 2/3", check.seen(0));
+        Check.due("29: none are others", 7, post.mark(0, 0));
+    }
+
+    private static void seesMany() {
+        Check check = full(12);
+        PostSieve post = check.post;
+        post.open(0, 0, 0);
+        for (int place = 0; place < 12; place++) {
+            post.setFlags(0, place, place);
+        }
+        post.open(0, 0, 0);
+        String flags = "1/0 2/1 3/2 4/3 5/4 6/5 7/6 8/7 9/8 10/9 11/10 12/11";
+        Check.due("37: of twelve items", flags, check.seen(0));
+        Check.due("37: of twelve items, for another one", flags, check.seen(1));
+        for (int mail = 0; mail < 8; mail++) {
+            check.mail("to:a1\n\n");
+        }
+        Check.due("41: eight came", 8, post.told(0));
+        String twenty = flags + " 13/0 14/0 15/0 16/0 17/0 18/0 19/0 20/0";
+        Check.due("41: with the flags of the others as they were", twenty, check.seen(0));
     }
 
     private static void removes() {
@@ -242,10 +266,18 @@ public final class SessionTest {
         check.mail("id:4\nrefs:3\n\n");
         check.mail("to:a1\nid:1\n\n");
         post.open(0, 0, 0);
-        int[][] found = {{0, 3}, {1, 3}, {2, 1}, {3, 0}, {4, 1}, {5, 3}, {6, 0}, {-1, 0}};
+        int[][] found = {{0, 3}, {1, 3}, {2, 1}, {3, 0}, {4, 1}, {5, 3}, {6, 0}, {20, 0}, {-1, 0}};
         for (int[] asked : found) {
             Check.due("42: the thread of " + asked[0], asked[1], post.find(0, 't', asked[0]));
         }
+        Check zero = new Check().people("a1");
+        zero.mail("to:a1\nid:0\n\n");
+        zero.mail("to:a1\nid:1\nrefs:0\n\n");
+        zero.mail("to:a1\n\n");
+        zero.post.open(0, 0, 0);
+        Check.due("42: the thread of the id 0", 2, zero.post.find(0, 't', 0));
+        Check.due("42: of no id", 0, zero.post.find(0, 't', 2));
+        Check.due("42: of the message behind the last one", 0, zero.post.find(0, 't', 3));
     }
 
     private static void noSessions() {

@@ -62,6 +62,12 @@ public final class ThreadTest {
         joins("the last ref that is another one", "1- 1/1", 1, "1", "3 1 3");
         joins("below what is below", "1- 1/1 1/2", 1, "1", "2 1", "3 2");
         joins("the id 0", "0- 0/0", 1, "0", "5 0");
+        joins("the sixth ref", "1- 2- 2/2", 2, "1", "2", "3 1 1 1 1 1 2");
+        joins("a seventh ref is left out", "1- 2- 1/1", 2, "1", "2", "3 1 1 1 1 1 1 2");
+        joins("seven digits are one ref", "123456- 7- 123456/123456", 2, "123456", "7", "123457 1234567");
+        joins("rows of digits", "1- 2- 2/2", 2, "1", "2", "3 x1y2z");
+        joins("signs around a row of digits", "1- 1/1", 1, "1", "3 <0001>");
+        joins("refs in comments are left out", "1- 2- 1/1", 2, "1", "2", "3 1 (2)");
     }
 
     private static void rings() {
