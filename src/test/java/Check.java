@@ -26,6 +26,11 @@ final class Check {
     }
 
     static void thrown(String what, Class<?> due, Call call) {
+        answered(what, due, call);
+    }
+
+    /** What the call answers, or the class of what it throws. */
+    static void answered(String what, Object due, Call call) {
         Object got;
         try {
             got = call.make();

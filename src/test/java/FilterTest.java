@@ -124,6 +124,14 @@ public final class FilterTest {
         pattern("*?a", "a", false);
         pattern("ab*bc", "abc", false);
         pattern("*#", "x\u00e9", true);
+        pattern("*?*", "x".repeat(60), true);
+        pattern("*y*", "x".repeat(60), false);
+        pattern("*y*", "x".repeat(59) + "y", true);
+        pattern("*x*x*x*x*x*", "x".repeat(60), true);
+        pattern("????????????", "x".repeat(12), true);
+        pattern("????????????", "x".repeat(13), false);
+        pattern("???????????*", "x".repeat(11), true);
+        pattern("???????????*", "x".repeat(10), false);
     }
 
     /** The captured signs behind a rule with this pattern, as the subject of the next message tells them. */
@@ -158,6 +166,11 @@ public final class FilterTest {
         captured("*", "123456789012345678901", "12345678901234567890");
         captured("*x", "1234567890123456789012345x", "12345678901234567890");
         captured("*", "*?$", "*?$");
+        captured("123456789*", "12345678901234567890123", "01234567890123");
+        captured("12345678901*", "123456789012345678901234567890123", "23456789012345678901");
+        captured("*9*", "1234567890".repeat(6), "12345678");
+        captured("**0", "1234567890".repeat(6), "");
+        captured("*0*", "x".repeat(59) + "0", "x".repeat(20));
         Check.due("12: what is captured is no wildcard", false, captures("*", "*", "abc"));
         Check.due("12: nor is '?'", false, captures("*", "?", "a"));
     }

@@ -5,6 +5,7 @@ public final class SameTest {
         bodies();
         boundaries();
         greatOnes();
+        oneBehindTheOther();
         calls();
         Check.end("SameTest");
     }
@@ -25,6 +26,7 @@ public final class SameTest {
         same("more than are read", "to:" + "a1 b2 c3 d4 e5 f6 ".repeat(9) + "\nrefs:" + "12345678 ".repeat(9) + "\n\n");
         same("fields that come twice", "from:a1\nfrom:b2\nid:1\nid:2\n\n");
         same("all is head", "from:a1\nx\n y\nto:b2");
+        same("no head, and a body like one", "\nfrom:a1\nto:b2\nsubject:x\nid:5\nrefs:3\n\n");
         same("all bytes in a field", "subject:\0\1\u000b\r\u007f\u0080\u00ff\n\n");
     }
 
@@ -35,6 +37,7 @@ public final class SameTest {
         }
         same("a raw body", "\n" + all);
         same("a coded body", "coding:q\n\n" + all + "=00=0a=0A=ff= \n=");
+        same("coded '=' and byte 10", "coding:q\n\n=3D=0A=3D =0A=3D\t =0Ax=3d41=3D");
         for (String bytes : new String[] {"", "Zg==", "Zm8=", "Zm9v", "Zm9vYg", "/////w+A"}) {
             same("a body in six bits " + bytes, "coding:b\n\n" + bytes);
         }
@@ -65,8 +68,30 @@ public final class SameTest {
         same("deep multi parts", "type:multi;b=a\n\n--a\ntype:multi;b=b\n\n--b\ntype:multi;b=c\n\n--c\n"
                 + "type:multi;b=d\n\n--d\ntype:multi;b=e\n\n--e\ntype:multi;b=f\n\n--f\n"
                 + "type:multi;b=g\ncoding:q\n\n--g\n=41\n--f\n\nx\n--e--\n--d\n\ny\n--a--");
+        StringBuilder lines = new StringBuilder("type:multi;b=ab\n\n--ab\n");
+        for (String line : new String[] {"w0p0", "w1p0", "w2p0", "w3p0", "0p0", "wp0", "w0", "w00", "w40", "w4p", "p0", "w"}) {
+            lines.append("\n--").append(line).append("\n\nx\n--").append(line).append("--");
+        }
+        same("lines like boundaries of its own", lines + "\n--ab--");
         same("many marks", "\n" + "--w0p --w1p --w2p --w3p --w4p ".repeat(20) + "--w5p");
         same("a long value", "subject:" + "(x)a ".repeat(390) + "\n\n");
+    }
+
+    /** What one message had must not be left for the next one. */
+    private static void oneBehindTheOther() {
+        String[] mails = {"refs:1 2 3\nfrom:a1\nto:b2,c3\nsubject:hello\nid:5\nlist:x\n\nbody", "", "subject:x\n\n",
+            "type:multi;b=x\nto:d4\n\n--x\n\na\n--x\ntype:wrap\n\ncoding:q\n\n=41", "refs:7\n\n", "subject:" + "y".repeat(99),
+            "type:wrap\nfrom:b2\n\n", "coding:b\nid:9\n\nQUJD", "\nx"};
+        Check check = new Check();
+        for (String mail : mails) {
+            check.mail(mail);
+        }
+        for (int turn = 1; turn < mails.length; turn++) {
+            for (int at = 0; at < mails.length; at++) {
+                int message = at * turn % mails.length;
+                Check.due("25: the message " + message + " in the turn " + turn, true, check.post.isSame(message));
+            }
+        }
     }
 
     private static void calls() {

@@ -10,6 +10,7 @@ public final class SessionTest {
         moves();
         tells();
         rights();
+        otherOwners();
         finds();
         findsThreads();
         noSessions();
@@ -215,6 +216,38 @@ public final class SessionTest {
         Check.thrown("39: taken back, and gone", Check.NOT_SUPPORTED, () -> post.remove(0, 0));
         Check.due("36: it sees what it saw", "1/7 2/0 3/0", check.seen(0));
         Check.due("41: it is told", 2, post.told(0));
+    }
+
+    /** Sessions on boxes of people who are not the first one. */
+    private static void otherOwners() {
+        Check check = new Check().people("a1", "b2", "c3", "d4");
+        PostSieve post = check.post;
+        check.mail("to:a1,b2,c3,d4\n\n1");
+        check.mail("to:d4,c3,b2,a1\n\n2");
+        for (int person = 1; person < 4; person++) {
+            int session = post.open(person, person, 0);
+            Check.due("33: its own box", person - 1, session);
+            Check.due("38: may do all", 0, post.setFlags(session, 1, person));
+            Check.due("39: may do all", 1, post.remove(session, 0));
+            Check.due("28: its room is less", 17, post.room(person));
+            Check.due("40: may do all", 1, post.move(session, 1, person % 3 + 1));
+            Check.due("40: in its own box", "1:1", check.box(person, person % 3 + 1));
+            Check.due("28: its room stays", 17, post.room(person));
+        }
+        Check.due("28: of the first person", 34, post.room(0));
+        Check.due("40: nor a box of the first person", "1:0 2:1", check.box(0, 0));
+        check.mail("to:c3\n\n");
+        post.grant(2, 0, 0, 1);
+        int reads = post.open(0, 2, 0);
+        Check.due("33: the first person on a box of another one", 3, reads);
+        Check.thrown("38: may read alone", Check.NOT_SUPPORTED, () -> post.setFlags(reads, 0, 1));
+        Check.thrown("39: may read alone", Check.NOT_SUPPORTED, () -> post.remove(reads, 0));
+        Check.thrown("40: may read alone", Check.NOT_SUPPORTED, () -> post.move(reads, 0, 1));
+        post.grant(2, 0, 0, 7);
+        Check.due("38: may do all now", 0, post.setFlags(reads, 0, 1));
+        Check.due("40: may do all now", 1, post.move(reads, 0, 1));
+        Check.due("40: a box of the owner", "1:2", check.box(2, 1));
+        Check.due("40: none of the reader", "", check.box(0, 1));
     }
 
     private static void finds() {

@@ -65,6 +65,10 @@ public final class ThreadTest {
         joins("the sixth ref", "1- 2- 2/2", 2, "1", "2", "3 1 1 1 1 1 2");
         joins("a seventh ref is left out", "1- 2- 1/1", 2, "1", "2", "3 1 1 1 1 1 1 2");
         joins("seven digits are one ref", "123456- 7- 123456/123456", 2, "123456", "7", "123457 1234567");
+        Check ahead = new Check();
+        ahead.mail("id:1\n\n");
+        ahead.mail("refs:1\nid:2\n\n");
+        Check.due("44: refs ahead of all", 1, ahead.post.above(1));
         joins("rows of digits", "1- 2- 2/2", 2, "1", "2", "3 x1y2z");
         joins("signs around a row of digits", "1- 1/1", 1, "1", "3 <0001>");
         joins("refs in comments are left out", "1- 2- 1/1", 2, "1", "2", "3 1 (2)");
@@ -151,7 +155,9 @@ public final class ThreadTest {
         }
         for (String subject : new String[] {"hello", "re hello", "re : hello", "fw: hello", "rere: hello", "a re: hello",
             "re: hello re:", "re: hello fwd", "re: hello =?q?=28fwd=29?= x", "re: he llo", "re: hell", "re: helloo",
-            "=?q?=28fwd=29?= hello", "=?q?=28fwd=29?= re: hello"}) {
+            "=?q?=28fwd=29?= hello", "=?q?=28fwd=29?= re: hello", "xe:hello", "rx:hello", "re;hello", "xwd:hello", "fxd:hello",
+            "fwx:hello", "fwd;hello", "re:hello=?q?xfwd=29?=", "re:hello=?q?=28xwd=29?=", "re:hello=?q?=28fxd=29?=",
+            "re:hello=?q?=28fwx=29?=", "re:hello=?q?=28fwdx?="}) {
             joins("not the base of " + subject, "1- 2-", 2, "1|hello", "2|" + subject);
         }
         joins("bases with other signs", "1- 1-", 1, "1|[x] \u00e9", "2|Re: [X] \u00c9");
