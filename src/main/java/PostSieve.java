@@ -1769,8 +1769,10 @@ public final class PostSieve {
                     }
                 }
             }
-            for (present = 0; present < copyCount && present < MOST_DELIVERIES; present++) {
-                Person person = people[receivers[present]];
+            // A copy that is redirected joins the end of the row, and has its turn in this same loop.
+            for (int copy = 0; copy < copyCount && copy < MOST_DELIVERIES; copy++) {
+                present = copy;
+                Person person = people[receivers[copy]];
                 deliveries++;
                 answers += person.makesAnswer(message, today) ? 1 : 0;
                 begin();
